@@ -202,8 +202,8 @@ public final class CarbonSheets {
             case 1: return now.isStackEmpty() ? NONE : now.low;
             case 2: return now.stack();
             case 3: return now.allMarks();
-            case 4: return fieldsWithOneValue();
-            case 5: return fieldsInConflict();
+            case 4: return fieldsWithLeaders(1, 1);
+            case 5: return fieldsWithLeaders(2, SHEETS);
             case 6: return pad.length;
             case 7: return history.size;
             case 8: return now.settings[FAINT];
@@ -341,22 +341,12 @@ public final class CarbonSheets {
         return now.stack();
     }
 
-    private int fieldsWithOneValue() {
+    /** Finds the fields of which least to most values have the most votes. */
+    private int fieldsWithLeaders(int least, int most) {
         int fields = 0;
         for (int field = 0; field < FIELDS; field++) {
             tally.takeIn(now, field);
-            if (tally.leaders == 1) {
-                fields |= 1 << field;
-            }
-        }
-        return fields;
-    }
-
-    private int fieldsInConflict() {
-        int fields = 0;
-        for (int field = 0; field < FIELDS; field++) {
-            tally.takeIn(now, field);
-            if (tally.leaders > 1) {
+            if (isWithin(tally.leaders, least, most)) {
                 fields |= 1 << field;
             }
         }
@@ -478,7 +468,8 @@ public final class CarbonSheets {
         }
 
         boolean isReadable(int field, int place, int faint) {
-            return !isStruck(field, place) && strengthAt(field, place) >= faint;
+            int mark = marks[field * MARKS + place];
+            return (mark & STRUCK) == 0 && (mark >> STRENGTH_SHIFT & STRENGTH_MASK) >= faint;
         }
 
         /** Returns how many marks are struck that were not struck before. */
@@ -771,12 +762,12 @@ public final class CarbonSheets {
 
     /** The votes that the sheets have for the values of one field. */
     private static final class Tally {
-        int clearSheets = 0;
-        int leaders = 0;
-        int lowest = NONE;
-        int highest = NONE;
-        int most = 0;
-        private int candidates = 0;
+        int clearSheets;
+        int leaders;
+        int lowest;
+        int highest;
+        int most;
+        private int candidates;
         private final int[] values = new int[SHEETS];
         private final int[] votes = new int[SHEETS];
 
@@ -897,11 +888,11 @@ public final class CarbonSheets {
         private static final int KIND = 0, FIELD = 1, EQUALS = 2, FIRST_DIGIT = 3, MORE_DIGITS = 4,
                 BEFORE_PRESSURE = 5, PRESSURE = 6, AFTER_ORDER = 7;
 
-        int kind = 0;
-        int field = 0;
-        int value = 0;
-        int pressure = 0;
-        private int expected = KIND;
+        int kind;
+        int field;
+        int value;
+        int pressure;
+        private int expected;
 
         void begin() {
             expected = KIND;

@@ -6,9 +6,11 @@ public final class LookingTest {
         ofSheet();
         reading();
         unclear();
+        fullFields();
         ofMark();
         together();
         togetherInConflict();
+        togetherAtSeveralFields();
         count();
         DUE.end();
     }
@@ -103,6 +105,41 @@ public final class LookingTest {
         DUE.is("the strong one is left", y.reading(0, 0, 1), 1);
     }
 
+    /** A full field's neighbours must not be read with it; the last field of a sheet has none. */
+    private static void fullFields() {
+        CarbonSheets x = new CarbonSheets();
+        for (int i = 0; i < 8; i++) {
+            x.write(3, i, 2);
+            x.write(9, i, 2);
+        }
+        x.strike(3, 2);
+        x.write(4, 70, 9);
+        x.write(4, 71, 9);
+        DUE.is("all are struck: reading(0, 3, 0)", x.reading(0, 3, 0), CarbonSheets.EMPTY);
+        DUE.is("all are struck: reading(0, 3, 1)", x.reading(0, 3, 1), CarbonSheets.NONE);
+        DUE.is("all are struck: reading(0, 3, 4)", x.reading(0, 3, 4), 0);
+        DUE.is("all are struck: strikeFor(3)", x.strikeFor(3), 1);
+        DUE.is("eight are readable: reading(0, 9, 1)", x.reading(0, 9, 1), 7);
+        DUE.is("eight are readable: reading(0, 9, 4)", x.reading(0, 9, 4), 8);
+        DUE.is("eight are readable: strikeFor(9)", x.strikeFor(9), 2);
+        DUE.is("ofSheet(0, 3)", x.ofSheet(0, 3), 18);
+        DUE.is("ofSheet(0, 4)", x.ofSheet(0, 4), 8);
+        x.paint(0, 4);
+        DUE.is("a struck neighbour is counted once", x.ofSheet(0, 4), 10);
+        x.paint(0, 9);
+        DUE.is("the last field, struck", x.ofSheet(0, 4), 18);
+        x.write(0, 1, 1);
+        x.paint(0, 0);
+        DUE.is("the first field, struck", x.ofSheet(0, 4), 19);
+        x.write(0, 1, 9);
+        x.write(1, 1, 9);
+        x.write(2, 1, 9);
+        DUE.is("several are clear", x.ofSheet(0, 5), 7);
+        x.write(0, 2, 2);
+        x.write(2, 2, 2);
+        DUE.is("several are unclear", x.ofSheet(0, 6), 5);
+    }
+
     private static void ofMark() {
         CarbonSheets x = new CarbonSheets();
         x.write(3, 999, 9);
@@ -171,6 +208,23 @@ public final class LookingTest {
         x.amend(0, 0, 0, 9);
         x.amend(1, 0, 0, 9);
         togetherIs(x, "the value 0 counts, too", 1, 0, 0, 18, 31);
+    }
+
+    private static void togetherAtSeveralFields() {
+        CarbonSheets x = new CarbonSheets();
+        for (int i = 0; i < 5; i++) {
+            x.tear(1);
+        }
+        for (int field : new int[] {1, 3, 8}) {
+            x.amend(0, field, 5, 9);
+            x.amend(4, field, 6, 9);
+        }
+        x.amend(2, 2, 7, 9);
+        x.amend(2, 9, 0, 2);
+        DUE.is("count(4)", x.count(4), 4 + 512);
+        DUE.is("count(5)", x.count(5), 2 + 8 + 256);
+        DUE.is("together(3, 2)", x.together(3, 2), 6);
+        togetherIs(x, "a field without a reading, after one with", 0, CarbonSheets.NONE, CarbonSheets.NONE, 0, 0);
     }
 
     private static void togetherIs(CarbonSheets x, String call, int... want) {

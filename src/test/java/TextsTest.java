@@ -108,6 +108,12 @@ public final class TextsTest {
         DUE.is("a stroke", y.carryOut(), 2);
         DUE.is("it struck", y.ofMark(0, 2, 0, 2), 1);
         DUE.is("all", y.ofSheet(3, 4), 1);
+        CarbonSheets top = Forms.withPad("t");
+        DUE.is("t", top.carryOut(), 1);
+        DUE.is("t tears the top one", top.count(2), 30);
+        CarbonSheets low = Forms.withPad("b;b");
+        DUE.is("b;b", low.carryOut(), 2);
+        DUE.is("b tears the lowest one", low.count(2), 7);
         CarbonSheets z = Forms.withPad("t;t;t;t;t");
         DUE.is("all are torn", z.carryOut(), 5);
         DUE.is("nothing was amended apart", z.ofSheet(0, 7), 0);

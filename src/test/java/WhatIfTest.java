@@ -71,6 +71,8 @@ public final class WhatIfTest {
         DUE.is("so is it with a faint mark", x.strikeFor(0), 1);
         x.write(0, 1, 7);
         DUE.is("as strong as what was written", x.strikeFor(0), 7);
+        x.write(5, 1, 2);
+        DUE.is("only the top one reads it", x.strikeFor(5), 2);
         x.thickness(1, 2);
         DUE.is("a sheet has become thicker", x.strikeFor(0), 8);
         x.thickness(0, 3);
@@ -102,6 +104,10 @@ public final class WhatIfTest {
         DUE.is("the lowest one's carbon is not used", x.lasts(5), 60);
         x.carbon(2, 3);
         DUE.is("the carbon with the fewest uses", x.lasts(5), 3);
+        x.carbon(0, 2);
+        DUE.is("the top one's carbon", x.lasts(5), 2);
+        x.carbon(3, 1);
+        DUE.is("the last carbon that is used", x.lasts(5), 1);
         x.carbon(2, 0);
         DUE.is("an empty carbon", x.lasts(9), 0);
         for (int sheet = 0; sheet < 4; sheet++) {

@@ -52,6 +52,10 @@ public final class WritingTest {
         DUE.is("the carbon below is not used", x.ofSheet(3, 1), 59);
         x.thickness(2, 0);
         DUE.is("thickness 0 needs a use, too", x.write(0, 3, 9), 3);
+        x.thickness(0, 0);
+        DUE.is("strength 1 comes through thickness 0", x.write(0, 4, 1), 2);
+        DUE.is("and uses the carbon", x.ofSheet(0, 1), 56);
+        DUE.is("but no deeper one", x.ofSheet(1, 1), 57);
     }
 
     private static void writeIsRefused() {
