@@ -1,23 +1,32 @@
-import java.util.ArrayList;
-import java.util.List;
 import java.util.function.Supplier;
 import java.util.function.ToIntFunction;
 
 /** Counts the calls whose answers are not due, and ends a test. */
 final class Due {
-    /** A question with its name. */
-    private record Probe(String call, ToIntFunction<CarbonSheets> asked) { }
+    /** A call with one of its arguments left open. */
+    interface OpenCall {
+        int on(CarbonSheets x, int number);
+    }
 
-    // An object answers for 512 calls only, so the probes are shared out among several pairs of objects.
-    private static final int PROBES_AN_OBJECT = 400;
+    private static final int MOST_STATES = 6;
 
     private int wrong = 0;
+    private String about = "";
+
+    /** Tells what the calls that come now are about. */
+    void about(String what) {
+        about = what + ": ";
+    }
 
     void is(String call, long got, long want) {
         if (got != want) {
-            wrong++;
-            System.out.println(call + " answered " + got + ", due is " + want);
+            fails(call + " answered " + got + ", due is " + want);
         }
+    }
+
+    void fails(String complaint) {
+        wrong++;
+        System.out.println(about + complaint);
     }
 
     /** Checks that a call returns an error and leaves everything that can be asked as it was. */
@@ -26,54 +35,42 @@ final class Due {
         sameAfter(call, maker, refusedCall);
     }
 
-    /** Checks that a call leaves everything that can be asked as it was. */
-    void sameAfter(String call, Supplier<CarbonSheets> maker, ToIntFunction<CarbonSheets> asked) {
-        for (int undone = 0; undone < 2; undone++) {
-            List<Probe> probes = probes();
-            for (int from = 0; from < probes.size(); from += PROBES_AN_OBJECT) {
-                CarbonSheets touched = maker.get();
-                CarbonSheets untouched = maker.get();
-                asked.applyAsInt(touched);
-                for (int i = 0; i < undone; i++) {
-                    is(call + ", then undo()", touched.undo(), untouched.undo());
-                }
-                for (Probe probe : probes.subList(from, Math.min(from + PROBES_AN_OBJECT, probes.size()))) {
-                    is(call + ", then " + probe.call, probe.asked.applyAsInt(touched), probe.asked.applyAsInt(untouched));
-                }
-                is(call + ", then restore(0)", touched.restore(0), untouched.restore(0));
-                is(call + ", then restore(1)", touched.restore(1), untouched.restore(1));
-                is(call + ", then carryOut()", touched.carryOut(), untouched.carryOut());
+    /** Checks that a call is refused with each number outside of a range in the place of its sign ?. */
+    void refusedOutside(String call, int least, int most, Supplier<CarbonSheets> maker, OpenCall refusedCall, int want) {
+        // A narrower type would wrap some of these into the range.
+        int[] far = {most + 32, least + 256, least - 256, most + 65536, least - 65536,
+            Integer.MIN_VALUE, Integer.MIN_VALUE + most, Integer.MAX_VALUE};
+        refused(told(call, least - 1), maker, x -> refusedCall.on(x, least - 1), want);
+        refused(told(call, most + 1), maker, x -> refusedCall.on(x, most + 1), want);
+        for (int number : far) {
+            if (number < least || number > most) {
+                refused(told(call, number), maker, x -> refusedCall.on(x, number), want);
             }
         }
     }
 
-    private static List<Probe> probes() {
-        List<Probe> probes = new ArrayList<>();
-        for (int i = 0; i < 10; i++) {
-            int what = i;
-            probes.add(new Probe("count(" + what + ")", x -> x.count(what)));
+    private static String told(String call, int number) {
+        return call.replace("?", Integer.toString(number));
+    }
+
+    /** Checks that a call leaves everything that can be asked as it was. */
+    void sameAfter(String call, Supplier<CarbonSheets> maker, ToIntFunction<CarbonSheets> asked) {
+        for (String answer : Answers.changedBy(maker, asked)) {
+            fails(call + ", then " + answer);
         }
-        for (int i = 0; i < 50; i++) {
-            int sheet = i / 10;
-            int field = i % 10;
-            for (int j = 0; j < 5; j++) {
-                int what = j;
-                probes.add(new Probe("reading(" + sheet + ", " + field + ", " + what + ")", x -> x.reading(sheet, field, what)));
-            }
-            for (int j = 0; j < 24; j++) {
-                int mark = j / 3;
-                int what = j % 3;
-                probes.add(new Probe("ofMark(" + sheet + ", " + field + ", " + mark + ", " + what + ")",
-                    x -> x.ofMark(sheet, field, mark, what)));
-            }
-        }
-        for (int i = 0; i < 40; i++) {
-            int sheet = i / 8;
-            int what = i % 8;
-            probes.add(new Probe("ofSheet(" + sheet + ", " + what + ")", x -> x.ofSheet(sheet, what)));
-        }
-        probes.add(new Probe("fault()", CarbonSheets::fault));
-        return probes;
+    }
+
+    /** Checks that a call is a change, on a form whose history is not full: one that undo() takes back whole. */
+    void isChange(String call, Supplier<CarbonSheets> maker, ToIntFunction<CarbonSheets> change) {
+        CarbonSheets x = maker.get();
+        int undoable = x.count(7);
+        is(call + ": the history has room", undoable < MOST_STATES ? 1 : 0, 1);
+        is(call + ": the errors", Math.min(0, change.applyAsInt(x)), 0);
+        is(call + ", then count(7)", x.count(7), undoable + 1);
+        sameAfter(call + ", then undo()", maker, y -> {
+            change.applyAsInt(y);
+            return y.undo();
+        });
     }
 
     void end() {

@@ -21,13 +21,17 @@ final class Forms {
         return x;
     }
 
+    /** The same with room in its history. */
+    static CarbonSheets withShortHistory() {
+        CarbonSheets x = used();
+        x.undo();
+        x.undo();
+        return x;
+    }
+
     /** A form whose sheets are all torn off, with marks and slots. */
     static CarbonSheets torn() {
-        CarbonSheets x = used();
-        for (int i = 0; i < 3; i++) {
-            x.tear(0);
-        }
-        return x;
+        return tornWhole(used());
     }
 
     /** A form with 8 marks at field 4 of the sheets 0 and 1, and 7 at those below. */
@@ -41,6 +45,42 @@ final class Forms {
         return x;
     }
 
+    /** A form whose sheet 0 is apart, with 8 marks at field 4. */
+    static CarbonSheets fullApart() {
+        CarbonSheets x = full();
+        x.tear(0);
+        return x;
+    }
+
+    /** A form whose sheets are all torn off, with 8 marks at field 4 of two of them. */
+    static CarbonSheets fullTorn() {
+        return tornWhole(full());
+    }
+
+    /** A new form of whose stack the sheets top to low are left. */
+    static CarbonSheets stackOf(int top, int low) {
+        CarbonSheets x = new CarbonSheets();
+        for (int sheet = 0; sheet < top; sheet++) {
+            x.tear(0);
+        }
+        for (int sheet = 4; sheet > low; sheet--) {
+            x.tear(1);
+        }
+        return x;
+    }
+
+    /** A new form whose sheets are all torn off, so that each can be amended. */
+    static CarbonSheets apart() {
+        return tornWhole(new CarbonSheets());
+    }
+
+    static CarbonSheets tornWhole(CarbonSheets x) {
+        for (int i = 0; i < 5 && x.count(2) != 0; i++) {
+            x.tear(0);
+        }
+        return x;
+    }
+
     static void append(CarbonSheets x, String text) {
         for (int from = 0; from < text.length(); from += 8) {
             x.put(packed(text.substring(from, Math.min(from + 8, text.length()))));
@@ -51,6 +91,11 @@ final class Forms {
         CarbonSheets x = new CarbonSheets();
         append(x, text);
         return x;
+    }
+
+    /** A new form with so many characters on its pad. */
+    static CarbonSheets padOf(int length) {
+        return withPad("t".repeat(length));
     }
 
     static long packed(String text) {

@@ -1,4 +1,4 @@
-/** Promises 10 to 14. */
+/** The ordinary cases of promises 10 to 14. */
 public final class LookingTest {
     private static final Due DUE = new Due();
 
@@ -36,12 +36,6 @@ public final class LookingTest {
         for (int what = 0; what < 8; what++) {
             DUE.is("ofSheet(4, " + what + ")", x.ofSheet(4, what), torn[what]);
         }
-        for (int sheet : new int[] {-1, 5, Integer.MIN_VALUE, Integer.MAX_VALUE}) {
-            DUE.refused("ofSheet(" + sheet + ", 8)", Forms::used, f -> f.ofSheet(sheet, 8), CarbonSheets.NO_SUCH);
-        }
-        for (int what : new int[] {-1, 8, Integer.MIN_VALUE, Integer.MAX_VALUE}) {
-            DUE.refused("ofSheet(0, " + what + ")", Forms::used, f -> f.ofSheet(0, what), CarbonSheets.BAD_VALUE);
-        }
     }
 
     private static void reading() {
@@ -66,13 +60,6 @@ public final class LookingTest {
         DUE.is("all marks there", x.reading(0, 0, 3), 3);
         x.paint(0, 0);
         DUE.is("all struck", x.reading(0, 0, 0), CarbonSheets.EMPTY);
-        int[][] none = {{-1, 0}, {5, 0}, {0, -1}, {0, 10}, {Integer.MAX_VALUE, 0}, {0, Integer.MIN_VALUE}};
-        for (int[] pair : none) {
-            DUE.refused("reading(" + pair[0] + ", " + pair[1] + ", 5)", Forms::used, f -> f.reading(pair[0], pair[1], 5), CarbonSheets.NO_SUCH);
-        }
-        for (int what : new int[] {-1, 5, Integer.MIN_VALUE, Integer.MAX_VALUE}) {
-            DUE.refused("reading(0, 0, " + what + ")", Forms::used, f -> f.reading(0, 0, what), CarbonSheets.BAD_VALUE);
-        }
     }
 
     private static void unclear() {
@@ -153,17 +140,8 @@ public final class LookingTest {
         DUE.is("ofMark(0, 3, 1, 2)", x.ofMark(0, 3, 1, 2), 1);
         DUE.is("ofMark(4, 3, 0, 1)", x.ofMark(4, 3, 0, 1), 5);
         DUE.is("a mark that did not come so deep", x.ofMark(1, 3, 1, 0), CarbonSheets.NO_SUCH);
-        int[][] none = {{-1, 0, 0}, {5, 0, 0}, {0, -1, 0}, {0, 10, 0}, {0, 0, -1}, {0, 0, 2}, {0, 9, 0},
-            {Integer.MIN_VALUE, 0, 0}, {0, Integer.MAX_VALUE, 0}, {0, 0, Integer.MAX_VALUE}, {0, 0, Integer.MIN_VALUE}};
-        for (int[] at : none) {
-            DUE.refused("ofMark(" + at[0] + ", " + at[1] + ", " + at[2] + ", 3)", Forms::used,
-                f -> f.ofMark(at[0], at[1], at[2], 3), CarbonSheets.NO_SUCH);
-        }
         DUE.is("ofMark(0, 4, 7, 0)", Forms.full().ofMark(0, 4, 7, 0), 7);
         DUE.is("ofMark(0, 4, 8, 0)", Forms.full().ofMark(0, 4, 8, 0), CarbonSheets.NO_SUCH);
-        for (int what : new int[] {-1, 3, Integer.MIN_VALUE, Integer.MAX_VALUE}) {
-            DUE.refused("ofMark(0, 0, 0, " + what + ")", Forms::used, f -> f.ofMark(0, 0, 0, what), CarbonSheets.BAD_VALUE);
-        }
     }
 
     private static void together() {
@@ -180,12 +158,6 @@ public final class LookingTest {
         togetherIs(x, "the last one's strength counts", 1, 500, 500, 9, 30);
         x.set(CarbonSheets.FAINT, 9);
         togetherIs(x, "one that is readable", 1, 800, 800, 9, 16);
-        for (int field : new int[] {-1, 10, Integer.MIN_VALUE, Integer.MAX_VALUE}) {
-            DUE.refused("together(" + field + ", 5)", Forms::used, f -> f.together(field, 5), CarbonSheets.NO_SUCH);
-        }
-        for (int what : new int[] {-1, 5, Integer.MIN_VALUE, Integer.MAX_VALUE}) {
-            DUE.refused("together(0, " + what + ")", Forms::used, f -> f.together(0, what), CarbonSheets.BAD_VALUE);
-        }
     }
 
     private static void togetherInConflict() {
@@ -259,8 +231,5 @@ public final class LookingTest {
         DUE.is("no sheet: the top one", x.count(0), CarbonSheets.NONE);
         DUE.is("no sheet: the lowest one", x.count(1), CarbonSheets.NONE);
         DUE.is("no sheet: the stack", x.count(2), 0);
-        for (int what : new int[] {-1, 10, Integer.MIN_VALUE, Integer.MAX_VALUE}) {
-            DUE.refused("count(" + what + ")", Forms::used, f -> f.count(what), CarbonSheets.BAD_VALUE);
-        }
     }
 }

