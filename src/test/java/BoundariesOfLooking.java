@@ -44,14 +44,12 @@ final class BoundariesOfLooking {
 
     @Sentence(in = "Promise 10", says = "2 whether it is apart (1 or 0),")
     static void p10What2IsWhetherItIsApart(Due due) {
-        for (int top = 0; top < 5; top++) {
-            for (int low = top; low < 5; low++) {
-                CarbonSheets x = Forms.stackOf(top, low);
-                for (int sheet = 0; sheet < 5; sheet++) {
-                    due.is("stack " + top + " to " + low + ", sheet " + sheet, x.ofSheet(sheet, 2), sheet < top || sheet > low ? 1 : 0);
-                }
+        Forms.eachStack((top, low) -> {
+            CarbonSheets x = Forms.stackOf(top, low);
+            for (int sheet = 0; sheet < 5; sheet++) {
+                due.is("stack " + top + " to " + low + ", sheet " + sheet, x.ofSheet(sheet, 2), sheet < top || sheet > low ? 1 : 0);
             }
-        }
+        });
         CarbonSheets x = Forms.apart();
         for (int sheet = 0; sheet < 5; sheet++) {
             due.is("without a stack, sheet " + sheet, x.ofSheet(sheet, 2), 1);
@@ -380,15 +378,13 @@ final class BoundariesOfLooking {
 
     @Sentence(in = "Promise 14", says = "Returns a number. - `what`: 0 the top sheet of the stack (NONE), 1 the lowest one (NONE), 2 the sheets of the stack, as a set,")
     static void p14What0To2AreTheEndsOfTheStackAndItself(Due due) {
-        for (int top = 0; top < 5; top++) {
-            for (int low = top; low < 5; low++) {
-                CarbonSheets x = Forms.stackOf(top, low);
-                String stack = "stack " + top + " to " + low;
-                due.is(stack + ": count(0)", x.count(0), top);
-                due.is(stack + ": count(1)", x.count(1), low);
-                due.is(stack + ": count(2)", x.count(2), (2 << low) - (1 << top));
-            }
-        }
+        Forms.eachStack((top, low) -> {
+            CarbonSheets x = Forms.stackOf(top, low);
+            String stack = "stack " + top + " to " + low;
+            due.is(stack + ": count(0)", x.count(0), top);
+            due.is(stack + ": count(1)", x.count(1), low);
+            due.is(stack + ": count(2)", x.count(2), (2 << low) - (1 << top));
+        });
         for (int top = 0; top < 5; top++) {
             CarbonSheets x = Forms.stackOf(top, top);
             x.tear(top % 2);

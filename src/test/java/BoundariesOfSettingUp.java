@@ -181,16 +181,14 @@ final class BoundariesOfSettingUp {
 
     @Sentence(in = "Promise 4", says = "NOT_POSSIBLE if the sheet is apart.")
     static void p04ASheetApartGetsNoCarbon(Due due) {
-        for (int top = 0; top < 5; top++) {
-            for (int low = top; low < 5; low++) {
-                CarbonSheets x = Forms.stackOf(top, low);
-                for (int sheet = 0; sheet < 5; sheet++) {
-                    boolean isApart = sheet < top || sheet > low;
-                    due.is("stack " + top + " to " + low + ": carbon(" + sheet + ", 0)", x.carbon(sheet, 0), isApart ? NOT_POSSIBLE : 60);
-                    due.is("its uses", x.ofSheet(sheet, 1), isApart ? 60 : 0);
-                }
+        Forms.eachStack((top, low) -> {
+            CarbonSheets x = Forms.stackOf(top, low);
+            for (int sheet = 0; sheet < 5; sheet++) {
+                boolean isApart = sheet < top || sheet > low;
+                due.is("stack " + top + " to " + low + ": carbon(" + sheet + ", 0)", x.carbon(sheet, 0), isApart ? NOT_POSSIBLE : 60);
+                due.is("its uses", x.ofSheet(sheet, 1), isApart ? 60 : 0);
             }
-        }
+        });
         for (int sheet : new int[] {0, 4}) {
             due.refused("carbon(" + sheet + ", 0), apart", Forms::used, x -> x.carbon(sheet, 0), NOT_POSSIBLE);
         }

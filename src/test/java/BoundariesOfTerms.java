@@ -368,17 +368,15 @@ final class BoundariesOfTerms {
 
     @Sentence(in = "Pressing", says = "(The carbon of the lowest sheet of the stack is not used.)")
     static void theCarbonOfTheLowestSheetIsNotUsed(Due due) {
-        for (int top = 0; top < 5; top++) {
-            for (int low = top; low < 5; low++) {
-                CarbonSheets x = Forms.stackOf(top, low);
-                x.write(0, 1, 9);
-                x.strike(0, 9);
-                for (int sheet = 0; sheet < 5; sheet++) {
-                    boolean isUsed = sheet >= top && sheet < low;
-                    due.is("stack " + top + " to " + low + ": ofSheet(" + sheet + ", 1)", x.ofSheet(sheet, 1), isUsed ? 58 : 60);
-                }
+        Forms.eachStack((top, low) -> {
+            CarbonSheets x = Forms.stackOf(top, low);
+            x.write(0, 1, 9);
+            x.strike(0, 9);
+            for (int sheet = 0; sheet < 5; sheet++) {
+                boolean isUsed = sheet >= top && sheet < low;
+                due.is("stack " + top + " to " + low + ": ofSheet(" + sheet + ", 1)", x.ofSheet(sheet, 1), isUsed ? 58 : 60);
             }
-        }
+        });
         CarbonSheets worn = new CarbonSheets();
         worn.carbon(4, 0);
         due.is("it is not needed, either", worn.write(0, 1, 9), 5);
@@ -430,39 +428,35 @@ final class BoundariesOfTerms {
 
     @Sentence(in = "Pressing", says = "A sheet that is the top one of the stack, or is apart, can be painted at a field: all its marks there are struck.")
     static void theTopSheetAndThoseApartCanBePainted(Due due) {
-        for (int top = 0; top < 5; top++) {
-            for (int low = top; low < 5; low++) {
-                CarbonSheets x = Forms.stackOf(top, low);
-                x.write(0, 5, 9);
-                x.write(0, 5, 1);
-                for (int sheet = 0; sheet < 5; sheet++) {
-                    boolean isBelow = sheet > top && sheet <= low;
-                    int want = isBelow ? NOT_POSSIBLE : sheet == top ? 2 : 0;
-                    due.is("stack " + top + " to " + low + ": paint(" + sheet + ", 0)", x.paint(sheet, 0), want);
-                }
-                due.is("the marks of the top one that are struck", x.ofSheet(top, 4), 2);
+        Forms.eachStack((top, low) -> {
+            CarbonSheets x = Forms.stackOf(top, low);
+            x.write(0, 5, 9);
+            x.write(0, 5, 1);
+            for (int sheet = 0; sheet < 5; sheet++) {
+                boolean isBelow = sheet > top && sheet <= low;
+                int want = isBelow ? NOT_POSSIBLE : sheet == top ? 2 : 0;
+                due.is("stack " + top + " to " + low + ": paint(" + sheet + ", 0)", x.paint(sheet, 0), want);
             }
-        }
+            due.is("the marks of the top one that are struck", x.ofSheet(top, 4), 2);
+        });
         due.is("all 8 marks of a full field", Forms.fullApart().paint(0, 4), 8);
     }
 
     @Sentence(in = "Pressing", says = "A sheet that is apart can be amended at a field: it alone gets a mark there, whose strength is the pressure.")
     static void aSheetApartCanBeAmendedAlone(Due due) {
-        for (int top = 0; top < 5; top++) {
-            for (int low = top; low < 5; low++) {
-                CarbonSheets x = Forms.stackOf(top, low);
-                int all = 0;
-                for (int sheet = 0; sheet < 5; sheet++) {
-                    boolean isApart = sheet < top || sheet > low;
-                    int pressure = 1 + 2 * sheet;
-                    String call = "stack " + top + " to " + low + ": amend(" + sheet + ", 9, 999, " + pressure + ")";
-                    due.is(call, x.amend(sheet, 9, 999, pressure), isApart ? 1 : NOT_POSSIBLE);
-                    due.is(call + ": the strength", x.ofMark(sheet, 9, 0, 1), isApart ? pressure : NO_SUCH);
-                    all += isApart ? 1 : 0;
-                    due.is(call + ": all marks", x.count(3), all);
-                }
+        Forms.eachStack((top, low) -> {
+            CarbonSheets x = Forms.stackOf(top, low);
+            int all = 0;
+            for (int sheet = 0; sheet < 5; sheet++) {
+                boolean isApart = sheet < top || sheet > low;
+                int pressure = 1 + 2 * sheet;
+                String call = "stack " + top + " to " + low + ": amend(" + sheet + ", 9, 999, " + pressure + ")";
+                due.is(call, x.amend(sheet, 9, 999, pressure), isApart ? 1 : NOT_POSSIBLE);
+                due.is(call + ": the strength", x.ofMark(sheet, 9, 0, 1), isApart ? pressure : NO_SUCH);
+                all += isApart ? 1 : 0;
+                due.is(call + ": all marks", x.count(3), all);
             }
-        }
+        });
     }
 
     @Sentence(in = "Texts", says = "The constants: `NO_SUCH = -1, BAD_VALUE = -2, BAD_TEXT = -3, TOO_MANY = -4, NOT_POSSIBLE = -5, NONE = -6`: Error "

@@ -201,11 +201,9 @@ final class BoundariesOfUndoSaving {
 
     @Sentence(in = "Promise 25", says = "Returns the sheets of the stack, as a set;")
     static void p25ReturnsTheStackFromAllToNone(Due due) {
-        for (int top = 0; top < 5; top++) {
-            for (int low = top; low < 5; low++) {
-                due.is("stack " + top + " to " + low, Forms.stackOf(top, low).save(1), (2 << low) - (1 << top));
-            }
-        }
+        Forms.eachStack((top, low) -> {
+            due.is("stack " + top + " to " + low, Forms.stackOf(top, low).save(1), (2 << low) - (1 << top));
+        });
         due.is("without a stack", Forms.apart().save(0), 0);
     }
 
@@ -264,19 +262,17 @@ final class BoundariesOfUndoSaving {
 
     @Sentence(in = "Promise 26", says = "Returns the sheets of the stack then, as a set;")
     static void p26ReturnsTheStackThenFromAllToNone(Due due) {
-        for (int top = 0; top < 5; top++) {
-            for (int low = top; low < 5; low++) {
-                CarbonSheets x = Forms.stackOf(top, low);
-                x.save(0);
-                Forms.tornWhole(x);
-                x.save(1);
-                due.is("stack " + top + " to " + low, x.restore(0), (2 << low) - (1 << top));
-                due.is("count(2)", x.count(2), (2 << low) - (1 << top));
-                due.is("without a stack", x.restore(1), 0);
-                due.is("count(2)", x.count(2), 0);
-                due.is("the top one", x.count(0), NONE);
-            }
-        }
+        Forms.eachStack((top, low) -> {
+            CarbonSheets x = Forms.stackOf(top, low);
+            x.save(0);
+            Forms.tornWhole(x);
+            x.save(1);
+            due.is("stack " + top + " to " + low, x.restore(0), (2 << low) - (1 << top));
+            due.is("count(2)", x.count(2), (2 << low) - (1 << top));
+            due.is("without a stack", x.restore(1), 0);
+            due.is("count(2)", x.count(2), 0);
+            due.is("the top one", x.count(0), NONE);
+        });
     }
 
     @Sentence(in = "Promise 26", says = "BAD_VALUE if there is no such slot;")

@@ -120,15 +120,13 @@ final class BoundariesOfWhatIf {
             x.carbon(worn, 1);
             due.is("one use is left under " + worn, x.enoughFor(4), 6);
         }
-        for (int top = 0; top < 5; top++) {
-            for (int low = top; low < 5; low++) {
-                CarbonSheets x = Forms.stackOf(top, low);
-                for (int sheet = 0; sheet < 5; sheet++) {
-                    boolean isApart = sheet < top || sheet > low;
-                    due.is("stack " + top + " to " + low + ": enoughFor(" + sheet + ")", x.enoughFor(sheet), isApart ? NONE : 2 + sheet - top);
-                }
+        Forms.eachStack((top, low) -> {
+            CarbonSheets x = Forms.stackOf(top, low);
+            for (int sheet = 0; sheet < 5; sheet++) {
+                boolean isApart = sheet < top || sheet > low;
+                due.is("stack " + top + " to " + low + ": enoughFor(" + sheet + ")", x.enoughFor(sheet), isApart ? NONE : 2 + sheet - top);
             }
-        }
+        });
         for (int sheet = 0; sheet < 5; sheet++) {
             due.is("without a stack: enoughFor(" + sheet + ")", Forms.apart().enoughFor(sheet), NONE);
         }

@@ -48,17 +48,15 @@ final class BoundariesOfWriting {
 
     @Sentence(in = "Promise 5", says = "Returns to how many sheets it came;")
     static void p05ReturnsToHowManySheetsItCame(Due due) {
-        for (int top = 0; top < 5; top++) {
-            for (int low = top; low < 5; low++) {
-                for (int pressure = 1; pressure <= 9; pressure++) {
-                    CarbonSheets x = Forms.stackOf(top, low);
-                    int sheets = low - top + 1;
-                    String call = "stack " + top + " to " + low + ": write(0, 5, " + pressure + ")";
-                    due.is(call, x.write(0, 5, pressure), Math.min(pressure, sheets));
-                    due.is(call + ": all marks", x.count(3), Math.min(pressure, sheets));
-                }
+        Forms.eachStack((top, low) -> {
+            for (int pressure = 1; pressure <= 9; pressure++) {
+                CarbonSheets x = Forms.stackOf(top, low);
+                int sheets = low - top + 1;
+                String call = "stack " + top + " to " + low + ": write(0, 5, " + pressure + ")";
+                due.is(call, x.write(0, 5, pressure), Math.min(pressure, sheets));
+                due.is(call + ": all marks", x.count(3), Math.min(pressure, sheets));
             }
-        }
+        });
     }
 
     @Sentence(in = "Promise 5", says = "NO_SUCH if there is no such field;")
@@ -328,17 +326,15 @@ final class BoundariesOfWriting {
 
     @Sentence(in = "Promise 9", says = "`side`: 0 the top one, 1 the lowest one")
     static void p09ASideIs0Or1(Due due) {
-        for (int top = 0; top < 5; top++) {
-            for (int low = top; low < 5; low++) {
-                CarbonSheets above = Forms.stackOf(top, low);
-                CarbonSheets below = Forms.stackOf(top, low);
-                int stack = above.count(2);
-                due.is("stack " + top + " to " + low + ": tear(0)", above.tear(0), top);
-                due.is("the stack then", above.count(2), stack & ~(1 << top));
-                due.is("stack " + top + " to " + low + ": tear(1)", below.tear(1), low);
-                due.is("the stack then", below.count(2), stack & ~(1 << low));
-            }
-        }
+        Forms.eachStack((top, low) -> {
+            CarbonSheets above = Forms.stackOf(top, low);
+            CarbonSheets below = Forms.stackOf(top, low);
+            int stack = above.count(2);
+            due.is("stack " + top + " to " + low + ": tear(0)", above.tear(0), top);
+            due.is("the stack then", above.count(2), stack & ~(1 << top));
+            due.is("stack " + top + " to " + low + ": tear(1)", below.tear(1), low);
+            due.is("the stack then", below.count(2), stack & ~(1 << low));
+        });
     }
 
     @Sentence(in = "Promise 9", says = "Returns the sheet;")

@@ -1,5 +1,10 @@
 /** Objects with which the tests begin. */
 final class Forms {
+    /** What is checked of a stack of which the sheets top to low are left. */
+    interface StackCheck {
+        void of(int top, int low);
+    }
+
     private Forms() { }
 
     /** A form with marks, a torn sheet at each end, a pad, two slots and a full history. */
@@ -67,6 +72,14 @@ final class Forms {
             x.tear(1);
         }
         return x;
+    }
+
+    static void eachStack(StackCheck check) {
+        for (int top = 0; top < 5; top++) {
+            for (int low = top; low < 5; low++) {
+                check.of(top, low);
+            }
+        }
     }
 
     /** A new form whose sheets are all torn off, so that each can be amended. */
