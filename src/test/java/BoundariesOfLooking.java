@@ -5,18 +5,6 @@ final class BoundariesOfLooking {
 
     private BoundariesOfLooking() { }
 
-    /** A form with 8 marks at each field of each sheet, which makes 84 calls. */
-    private static CarbonSheets withAllMarks() {
-        CarbonSheets x = new CarbonSheets();
-        for (int sheet = 0; sheet < 4; sheet++) {
-            x.carbon(sheet, 300);
-        }
-        for (int i = 0; i < 80; i++) {
-            x.write(i / 8, i, 9);
-        }
-        return x;
-    }
-
     @Sentence(in = "Promise 10", says = "Returns a number about a sheet. - `what`: 0 its thickness,")
     static void p10What0IsItsThickness0To4(Due due) {
         CarbonSheets x = new CarbonSheets();
@@ -59,7 +47,7 @@ final class BoundariesOfLooking {
     @Sentence(in = "Promise 10", says = "3 its marks,")
     static void p10What3IsItsMarks0To80(Due due) {
         due.is("none", new CarbonSheets().ofSheet(0, 3), 0);
-        CarbonSheets all = withAllMarks();
+        CarbonSheets all = Forms.withAllMarks();
         due.is("all, on the top sheet", all.ofSheet(0, 3), 80);
         due.is("all, on the lowest sheet", all.ofSheet(4, 3), 80);
         all.strike(0, 9);
@@ -69,7 +57,7 @@ final class BoundariesOfLooking {
 
     @Sentence(in = "Promise 10", says = "4 those that are struck,")
     static void p10What4IsTheStruckOnes0To80(Due due) {
-        CarbonSheets all = withAllMarks();
+        CarbonSheets all = Forms.withAllMarks();
         due.is("none", all.ofSheet(0, 4), 0);
         for (int field = 0; field < 10; field++) {
             all.paint(0, field);
@@ -201,6 +189,13 @@ final class BoundariesOfLooking {
         due.is("on sheet 1", x.reading(1, 5, 4), 8);
         x.paint(0, 5);
         due.is("all struck", x.reading(0, 5, 4), 0);
+        CarbonSheets all = Forms.withAllMarks();
+        for (int field = 0; field < 10; field++) {
+            due.is("a full field has no mark of the one behind it: " + field, all.reading(4, field, 4), 8);
+            all.paint(0, field);
+            due.is("nor when it is struck: " + field, all.reading(0, field, 4), 0);
+            due.is("nor has it a value then: " + field, all.reading(0, field, 1), NONE);
+        }
     }
 
     @Sentence(in = "Promise 11", says = "Returns the number; NO_SUCH if there is no such sheet or field;")
@@ -219,7 +214,7 @@ final class BoundariesOfLooking {
 
     @Sentence(in = "Promise 12", says = "Returns a number about a mark. - `mark`: 0 for the first one that was made there")
     static void p12TheFirstMarkIs0AndTheEighthIs7(Due due) {
-        CarbonSheets x = withAllMarks();
+        CarbonSheets x = Forms.withAllMarks();
         for (int sheet = 0; sheet < 5; sheet += 4) {
             for (int field = 0; field < 10; field++) {
                 due.is("the first one of field " + field, x.ofMark(sheet, field, 0, 0), 8 * field);
@@ -397,7 +392,7 @@ final class BoundariesOfLooking {
     @Sentence(in = "Promise 14", says = "3 all marks,")
     static void p14What3IsAllMarks0To400(Due due) {
         due.is("none", new CarbonSheets().count(3), 0);
-        CarbonSheets all = withAllMarks();
+        CarbonSheets all = Forms.withAllMarks();
         due.is("all that can be", all.count(3), 400);
         all.paint(0, 0);
         Forms.tornWhole(all);

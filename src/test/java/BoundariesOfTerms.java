@@ -321,6 +321,7 @@ final class BoundariesOfTerms {
                     due.is(press, x.write(0, 5, pressure), comes ? 2 : 1);
                     due.is(press + ": the marks below", x.reading(3, 0, 3), comes ? 1 : 0);
                     due.is(press + ": the strength there", x.ofMark(3, 0, 0, 1), comes ? pressure - thickness : NO_SUCH);
+                    due.is(press + ": the uses then", x.ofSheet(2, 1), comes ? 0 : uses);
                 }
             }
         }

@@ -220,6 +220,15 @@ final class BoundariesOfUndoSaving {
             due.isChange("restore(" + slot + ")", Forms::withShortHistory, x -> x.restore(here));
         }
         due.isChange("restore(0) of what is there", BoundariesOfUndoSaving::saved, x -> x.restore(0));
+        due.isChange("restore(0) of no marks over all that can be", () -> {
+            CarbonSheets x = new CarbonSheets();
+            x.save(0);
+            for (int i = 0; i < 4; i++) {
+                Forms.append(x, "w0=1!9;w3=2!9;w6=3!9;w9=4!9;w8=5!9;s9!9");
+                x.carryOut();
+            }
+            return x;
+        }, x -> x.restore(0));
         CarbonSheets x = saved();
         x.write(0, 2, 9);
         x.tear(0);

@@ -175,6 +175,15 @@ final class BoundariesOfWhatIf {
         due.is("8 marks", full.strikeFor(4), 9);
         due.is("the field before", full.strikeFor(3), 1);
         due.is("the field behind", full.strikeFor(5), 1);
+        CarbonSheets all = Forms.withAllMarks();
+        for (int torn = 0; torn < 4; torn++) {
+            all.tear(0);
+        }
+        for (int field = 0; field < 10; field++) {
+            due.is("before other full fields: " + field, all.strikeFor(field), 5);
+            all.strike(field, 5);
+            due.is("before other full fields, struck: " + field, all.strikeFor(field), 1);
+        }
     }
 
     @Sentence(in = "Promise 17", says = "NO_SUCH if there is no such field;")

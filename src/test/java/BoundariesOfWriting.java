@@ -105,6 +105,13 @@ final class BoundariesOfWriting {
         x.undo();
         due.is("with 7 again", x.write(4, 5, 9), 3);
         due.is("with 8 again", x.write(4, 5, 9), TOO_MANY);
+        for (int sheet = 0; sheet < 5; sheet++) {
+            CarbonSheets one = Forms.stackOf(sheet, sheet);
+            for (int marks = 1; marks <= 8; marks++) {
+                due.is("mark " + marks + " on sheet " + sheet + " alone", one.write(0, marks, 9), 1);
+            }
+            due.is("a ninth one on sheet " + sheet + " alone", one.write(0, 9, 9), TOO_MANY);
+        }
     }
 
     @Sentence(in = "Promise 6", says = "Strikes a field. This is a change.")
@@ -112,6 +119,8 @@ final class BoundariesOfWriting {
         due.isChange("strike(0, 9)", Forms::withShortHistory, x -> x.strike(0, 9));
         due.isChange("strike(0, 1)", Forms::withShortHistory, x -> x.strike(0, 1));
         due.isChange("strike(9, 1), where no mark is", Forms::withShortHistory, x -> x.strike(9, 1));
+        due.isChange("strike(0, 9) of 40 marks", Forms::withAllMarks, x -> x.strike(0, 9));
+        due.isChange("strike(9, 9) of 40 marks", Forms::withAllMarks, x -> x.strike(9, 9));
     }
 
     @Sentence(in = "Promise 6", says = "`pressure`: 1 to 9")
@@ -171,6 +180,8 @@ final class BoundariesOfWriting {
         due.isChange("paint(0, 0), apart", Forms::withShortHistory, x -> x.paint(0, 0));
         due.isChange("paint(4, 9), apart, where no mark is", Forms::withShortHistory, x -> x.paint(4, 9));
         due.isChange("paint(1, 9), the top one, where no mark is", Forms::withShortHistory, x -> x.paint(1, 9));
+        due.isChange("paint(0, 0) of 8 marks", Forms::withAllMarks, x -> x.paint(0, 0));
+        due.isChange("paint(0, 9) of 8 marks", Forms::withAllMarks, x -> x.paint(0, 9));
     }
 
     @Sentence(in = "Promise 7", says = "Returns how many marks are struck by this;")

@@ -50,6 +50,20 @@ final class Forms {
         return x;
     }
 
+    /** A form with 8 marks at each field of each sheet, none struck, and room in its history; that takes 86 calls. */
+    static CarbonSheets withAllMarks() {
+        CarbonSheets x = new CarbonSheets();
+        for (int sheet = 0; sheet < 4; sheet++) {
+            x.carbon(sheet, 300);
+        }
+        for (int i = 0; i < 80; i++) {
+            x.write(i / 8, i, 9);
+        }
+        x.set(CarbonSheets.OVER, 5);
+        x.undo();
+        return x;
+    }
+
     /** A form whose sheet 0 is apart, with 8 marks at field 4. */
     static CarbonSheets fullApart() {
         CarbonSheets x = full();
