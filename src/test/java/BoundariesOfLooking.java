@@ -371,7 +371,8 @@ final class BoundariesOfLooking {
         due.refusedOutside("together(9, ?), without a reading", 0, 4, Forms::used, (x, what) -> x.together(9, what), BAD_VALUE);
     }
 
-    @Sentence(in = "Promise 14", says = "Returns a number. - `what`: 0 the top sheet of the stack (NONE), 1 the lowest one (NONE), 2 the sheets of the stack, as a set,")
+    @Sentence(in = "Promise 14", says = "Returns a number. - `what`: 0 the top sheet of the stack (NONE), 1 the lowest one "
+        + "(NONE), 2 the sheets of the stack, as a set,")
     static void p14What0To2AreTheEndsOfTheStackAndItself(Due due) {
         Forms.eachStack((top, low) -> {
             CarbonSheets x = Forms.stackOf(top, low);
