@@ -313,11 +313,7 @@ public final class CarbonSheets {
     // ---- undo, saving
 
     public int undo() {
-        if (history.size == 0) {
-            return NOT_POSSIBLE;
-        }
-        history.takeBackInto(now);
-        return history.size;
+        return history.takesBackInto(now) ? history.size : NOT_POSSIBLE;
     }
 
     public int save(int slot) {
@@ -818,10 +814,9 @@ public final class CarbonSheets {
         }
     }
 
-    /** The states before the latest changes, in a ring. */
+    /** The states before the latest changes, the oldest one first. */
     private static final class History {
         int size = 0;
-        private int latest = 0;
         private final State[] states = new State[STATES_KEPT];
 
         History() {
@@ -831,15 +826,31 @@ public final class CarbonSheets {
         }
 
         void record(State state) {
-            latest = latest + 1 < STATES_KEPT ? latest + 1 : 0;
-            states[latest].copyFrom(state);
-            size = Math.min(size + 1, STATES_KEPT);
+            if (size >= STATES_KEPT) {
+                dropOldest();
+            }
+            states[size].copyFrom(state);
+            size++;
         }
 
-        void takeBackInto(State state) {
-            state.copyFrom(states[latest]);
-            latest = latest > 0 ? latest - 1 : STATES_KEPT - 1;
+        private void dropOldest() {
+            // It goes to the end to be written over, as no call makes an object.
+            State oldest = states[0];
+            for (int place = 1; place < STATES_KEPT; place++) {
+                states[place - 1] = states[place];
+            }
+            states[STATES_KEPT - 1] = oldest;
+            size = STATES_KEPT - 1;
+        }
+
+        /** Brings the latest state back; false if there is none. */
+        boolean takesBackInto(State state) {
+            if (size < 1) {
+                return false;
+            }
             size--;
+            state.copyFrom(states[size]);
+            return true;
         }
     }
 
